@@ -394,7 +394,7 @@ public final class SeedChainer {
         }
 
         private void begin() {
-            Arrays.fill(oneBefore, DEAD);
+            // The other slopes may keep what an earlier walk left: each is cleared or replaced before it is read.
             Arrays.fill(current, DEAD);
             current[0] = 0;
             endScore = 0;

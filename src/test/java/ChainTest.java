@@ -69,10 +69,13 @@ public final class ChainTest {
     }
 
     private static void followChanges() {
-        SeedChainer x = Check.rows("0123", "0123");
-        check.same("chain", Check.chainOf(x), "40: 0,0 2,2");
-        x.put(1, 1);
+        SeedChainer x = Check.rows("0123", "012");
+        check.same("chain", Check.chainOf(x), "20: 0,0");
+        x.put(1, 3);
         check.same("after put", Check.chainOf(x), "40: 0,0 2,2");
+        x.put(1, 1);
+        x.put(1, 4);
+        check.same("after puts that add nothing", Check.chainOf(x), "40: 0,0 2,2");
         x.put(0, 1);
         x.seeds(5);
         check.same("after seeds(5)", Check.chainOf(x), "50: 0,0");

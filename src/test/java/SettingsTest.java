@@ -10,7 +10,7 @@ public final class SettingsTest {
         penaltyRefuses();
         scoresRange();
         scoresRefuses();
-        eachScoreCounts();
+        scoresCountFromTheNextReachOn();
         check.end();
     }
 
@@ -26,9 +26,10 @@ public final class SettingsTest {
         check.due("loss 1 at first", w.reach(0, 0), 5);
         SeedChainer v = Check.rows("01000", "0000");
         check.due("gap 2 at first", v.reach(0, 0), 6);
-        SeedChainer u = Check.rows("000000", "");
+        // Six letters that differ cost 6, a seventh would cost 7.
+        SeedChainer u = Check.rows("00000000", "11111111");
         u.reach(0, 0);
-        check.same("limit 6 at first", Check.reachedOf(u), "0 0 4 3");
+        check.same("limit 6 at first", Check.reachedOf(u), "0 0 25 12");
     }
 
     private static void seedsRange() {
@@ -119,7 +120,7 @@ public final class SettingsTest {
         }
     }
 
-    private static void eachScoreCounts() {
+    private static void scoresCountFromTheNextReachOn() {
         SeedChainer x = Check.rows("00", "00");
         x.reach(0, 0);
         String before = Check.reachedOf(x);
