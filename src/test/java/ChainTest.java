@@ -1,127 +1,94 @@
-/** Promises 10 to 12: chain, links, link. */
+/** Promise 10: chain, the score of the best chain. */
 public final class ChainTest {
     private static final Check check = new Check();
 
     public static void main(String[] args) {
-        noAnchors();
-        anchorsMayTouchButNotOverlap();
-        lettersOutsideCostNothing();
-        firstOfEqualChains();
-        beginningComesFirst();
-        followChanges();
-        linkRefuses();
-        most();
+        check.test("the chain of none scores 0: empty rows", ChainTest::emptyRows);
+        check.test("the chain of none scores 0: no anchor", () -> score("000", "111", 2, 1, 0));
+        check.test("one anchor scores 10 K", ChainTest::oneAnchor);
+        check.test("a next anchor may begin K letters on", ChainTest::touching);
+        check.test("a next anchor may not begin K - 1 letters on in row 0", ChainTest::overlapInRow0);
+        check.test("a next anchor may not begin K - 1 letters on in row 1", ChainTest::overlapInRow1);
+        check.test("a next anchor goes forward in both rows", () -> score("0123", "2301", 2, 0, 20));
+        check.test("each letter of row 0 between costs the penalty", () -> score("012223", "0123", 2, 3, 34));
+        check.test("each letter of row 1 between costs the penalty", () -> score("0123", "012223", 2, 3, 34));
+        check.test("letters of both rows between are added", () -> score("0123012", "01222012", 3, 2, 54));
+        check.test("letters before the first anchor cost nothing", () -> score("3333301", "2222201", 2, 9, 20));
+        check.test("letters behind the last anchor cost nothing", () -> score("0133333", "0122222", 2, 9, 20));
+        check.test("an anchor that costs more than it brings stays out", () -> score("0220", "03330", 1, 3, 10));
+        check.test("an anchor that brings as much as it costs adds nothing", () -> score("0220", "03330", 1, 2, 10));
+        check.test("an anchor that brings more than it costs adds the rest", () -> score("0220", "03330", 1, 1, 15));
+        check.test("dear letters are crossed when enough stands on both sides", () -> score("012201", "0133301", 1, 3, 25));
+        check.test("the greatest score there can be", ChainTest::greatest);
+        check.test("the widest gap, for nothing and for the greatest penalty", ChainTest::widestGap);
+        check.test("puts, cuts, K and penalty are followed at once", ChainTest::followsChanges);
         check.end();
     }
 
-    private static void noAnchors() {
-        check.same("chain of no anchors", Check.chainOf(Check.rows("000", "111")), "0:");
-        check.same("chain of one empty row", Check.chainOf(Check.rows("000", "")), "0:");
+    private static void score(String first, String second, int k, int penalty, int want) {
+        SeedChainer x = Rows.of(first, second, k, penalty);
+        String call = "chain() of " + first + " and " + second + " with K " + k + " and penalty " + penalty;
+        check.due(call, x.chain(), want);
+        check.due(call + " again", x.chain(), want);
     }
 
-    private static void anchorsMayTouchButNotOverlap() {
-        check.same("touching", Check.chainOf(Check.rows("0123", "0123")), "40: 0,0 2,2");
-        check.same("overlapping", Check.chainOf(Check.rows("012", "012")), "20: 0,0");
-        check.same("overlapping in row 1 alone", Check.chainOf(Check.rows("01312", "012")), "20: 0,0");
-        check.same("overlapping in row 0 alone", Check.chainOf(Check.rows("012", "01312")), "20: 0,0");
-        check.same("crossing", Check.chainOf(Check.rows("0123", "2301")), "20: 0,2");
+    private static void emptyRows() {
+        score("", "", 1, 0, 0);
+        score("0123", "", 1, 0, 0);
+        score("", "0123", 1, 0, 0);
     }
 
-    private static void lettersOutsideCostNothing() {
-        SeedChainer x = Check.rows("33330133332", "2222201");
-        x.penalty(9);
-        check.same("before and behind", Check.chainOf(x), "20: 4,5");
-    }
-
-    private static void firstOfEqualChains() {
-        check.same("less j", Check.chainOf(Check.rows("01", "0101")), "20: 0,0");
-        check.same("less i", Check.chainOf(Check.rows("0101", "01")), "20: 0,0");
-        // 0,2 comes before 2,0, though its j is greater.
-        check.same("less i before less j", Check.chainOf(Check.rows("0123", "2301")), "20: 0,2");
-        SeedChainer x = Check.rows("0110", "010");
-        x.seeds(1);
-        x.penalty(0);
-        check.same("the middle one with less i", Check.chainOf(x), "30: 0,0 1,1 3,2");
-        SeedChainer y = Check.rows("010", "0110");
-        y.seeds(1);
-        check.same("the middle one with less j", Check.chainOf(y), "29: 0,0 1,1 2,3");
-        // Nearer neighbours outweigh the order: 0,0 leaves a letter between, 1,0 does not.
-        SeedChainer z = Check.rows("001", "01");
-        z.seeds(1);
-        check.same("the greater score before the order", Check.chainOf(z), "20: 1,0 2,1");
-    }
-
-    private static void beginningComesFirst() {
-        SeedChainer x = Check.rows("0220", "03330");
-        x.seeds(1);
-        x.penalty(2);
-        // The second anchor adds 10 and costs 5 letters of 2: the chain of one alone comes first.
-        check.same("adds nothing", Check.chainOf(x), "10: 0,0");
-        x.penalty(1);
-        check.same("adds something", Check.chainOf(x), "15: 0,0 3,4");
-        x.penalty(3);
-        check.same("would cost more", Check.chainOf(x), "10: 0,0");
-        // Alone 0,0 adds nothing to what comes later, yet a chain that begins with it comes first.
-        SeedChainer y = Check.rows("02201", "033301");
-        y.seeds(1);
-        y.penalty(2);
-        check.same("an early anchor that adds nothing", Check.chainOf(y), "20: 0,0 3,4 4,5");
-    }
-
-    private static void followChanges() {
-        SeedChainer x = Check.rows("0123", "012");
-        check.same("chain", Check.chainOf(x), "20: 0,0");
-        x.put(1, 3);
-        check.same("after put", Check.chainOf(x), "40: 0,0 2,2");
-        x.put(1, 1);
-        x.put(1, 4);
-        check.same("after puts that add nothing", Check.chainOf(x), "40: 0,0 2,2");
-        x.put(0, 1);
-        x.seeds(5);
-        check.same("after seeds(5)", Check.chainOf(x), "50: 0,0");
-        x.cut(1);
-        check.same("after cut", Check.chainOf(x), "0:");
-        x.seeds(1);
-        check.same("after seeds(1)", Check.chainOf(x), "40: 0,0 1,1 2,2 3,3");
-        x.cut(0);
-        x.cut(0);
-        x.put(0, 1);
-        check.same("after letters of row 0 changed", Check.chainOf(x), "30: 0,0 1,1 2,2");
-        SeedChainer y = Check.rows("01233", "01023");
-        y.chain();
-        y.penalty(9);
-        check.due("link(1, 1) first after penalty", y.link(1, 1), 3);
-        check.due("chain() after penalty", y.chain(), 31);
-        y.cut(1);
-        check.due("links() first after cut", y.links(), 1);
-    }
-
-    private static void linkRefuses() {
-        SeedChainer x = Check.rows("01233", "01023");
-        for (int n : new int[] {-1, 2, 3, 47, 48, Integer.MIN_VALUE, Integer.MAX_VALUE}) {
-            check.due("link(" + n + ", 0)", x.link(n, 0), -1);
-            check.due("link(" + n + ", 1)", x.link(n, 1), -1);
-        }
-        for (int which : new int[] {-1, 2, 3, Integer.MIN_VALUE, Integer.MAX_VALUE}) {
-            check.due("link(0, " + which + ")", x.link(0, which), -1);
-        }
-        check.due("link(1, 0)", x.link(1, 0), 2);
-        check.due("link(1, 1)", x.link(1, 1), 3);
-    }
-
-    private static void most() {
-        SeedChainer x = Check.rows("1".repeat(48), "1".repeat(48));
+    private static void oneAnchor() {
         for (int k = 1; k <= 6; k++) {
-            x.seeds(k);
-            check.due("chain() of full rows", x.chain(), 48 / k * 10 * k);
-            check.due("links() of full rows", x.links(), 48 / k);
-            check.due("the last link", x.link(48 / k - 1, 1), (48 / k - 1) * k);
-            check.due("none behind it", x.link(48 / k, 0), -1);
+            score("0123012".substring(0, k), "0123012".substring(0, k), k, 9, 10 * k);
         }
-        SeedChainer y = Check.rows("0" + "1".repeat(46) + "0", "0" + "2".repeat(46) + "0");
-        y.seeds(1);
-        check.same("92 letters between", Check.chainOf(y), "10: 0,0");
-        y.penalty(0);
-        check.same("92 letters between for nothing", Check.chainOf(y), "20: 0,0 47,47");
+    }
+
+    private static void touching() {
+        score("0123", "0123", 2, 9, 40);
+        score("012301", "012301", 3, 9, 60);
+        score("0123", "01023", 2, 1, 39);
+    }
+
+    // The second anchor stands free in row 1 and one letter too early in row 0; below the same the other way.
+    private static void overlapInRow0() {
+        score("012", "0112", 2, 0, 20);
+        score("01230", "012230", 3, 0, 30);
+    }
+
+    private static void overlapInRow1() {
+        score("0112", "012", 2, 0, 20);
+        score("012230", "01230", 3, 0, 30);
+    }
+
+    private static void greatest() {
+        for (int k = 1; k <= 6; k++) {
+            score("1".repeat(48), "1".repeat(48), k, 9, 48 / k * 10 * k);
+        }
+    }
+
+    private static void widestGap() {
+        String first = "0" + "1".repeat(46) + "0";
+        String second = "0" + "2".repeat(46) + "0";
+        score(first, second, 1, 0, 20);
+        score(first, second, 1, 1, 10);
+        score(first, second, 1, 9, 10);
+    }
+
+    private static void followsChanges() {
+        SeedChainer x = Rows.of("0123", "012");
+        check.due("chain()", x.chain(), 20);
+        x.put(1, 3);
+        check.due("after put", x.chain(), 40);
+        x.put(0, 1);
+        x.put(1, 1);
+        x.seeds(5);
+        check.due("after seeds(5)", x.chain(), 50);
+        x.cut(1);
+        check.due("after cut", x.chain(), 0);
+        SeedChainer y = Rows.of("01233", "01023");
+        check.due("chain() of penalty 1", y.chain(), 39);
+        y.penalty(9);
+        check.due("after penalty(9)", y.chain(), 31);
     }
 }

@@ -1,69 +1,84 @@
-/** What the tests share: counting wrong answers, and filling rows from a text of digits. */
-final class Check {
-    private int wrong = 0;
-    private int looked = 0;
+import java.util.function.Predicate;
+import java.util.function.ToIntFunction;
 
-    void due(String call, long got, long want) {
+/** Runs the cases of a test and counts the answers that are not as due. */
+final class Check {
+    private int cases = 0;
+    private int wrongCases = 0;
+    private int looked = 0;
+    private int wrong = 0;
+    private String current = "outside of all cases";
+
+    /** One case: an ordinary use, or one boundary that a sentence of the document names. */
+    void test(String name, Runnable body) {
+        int lookedBefore = looked;
+        int wrongBefore = wrong;
+        current = name;
+        cases++;
+        try {
+            body.run();
+        } catch (RuntimeException thrown) {
+            tell("threw " + thrown);
+        }
+        if (looked == lookedBefore) {
+            tell("looked at no answer");
+        }
+        if (wrong != wrongBefore) {
+            wrongCases++;
+        }
+        current = "outside of all cases";
+    }
+
+    void due(String call, int got, int want) {
         looked++;
         if (got != want) {
-            wrong++;
-            System.out.println(call + " answered " + got + ", due is " + want);
+            tell(call + " answered " + got + ", due is " + want);
         }
     }
 
     void due(String call, boolean got, boolean want) {
-        due(call, got ? 1L : 0L, want ? 1L : 0L);
-    }
-
-    void end() {
-        System.out.println(looked + " answers looked at, " + wrong + " not as due");
-        if (wrong != 0 || looked == 0) {
-            System.exit(1);
+        looked++;
+        if (got != want) {
+            tell(call + " answered " + got + ", due is " + want);
         }
-    }
-
-    static SeedChainer rows(String first, String second) {
-        SeedChainer x = new SeedChainer();
-        fill(x, 0, first);
-        fill(x, 1, second);
-        return x;
-    }
-
-    static void fill(SeedChainer x, int row, String letters) {
-        for (int n = 0; n < letters.length(); n++) {
-            x.put(row, letters.charAt(n) - '0');
-        }
-    }
-
-    /** The best chain, its score first: "38: 0,0 2,2". */
-    static String chainOf(SeedChainer x) {
-        StringBuilder text = new StringBuilder().append(x.chain()).append(':');
-        int links = x.links();
-        for (int n = 0; n < links; n++) {
-            text.append(' ').append(x.link(n, 0)).append(',').append(x.link(n, 1));
-        }
-        return text.toString();
-    }
-
-    static String anchorsOf(SeedChainer x) {
-        StringBuilder text = new StringBuilder().append(x.anchors()).append(':');
-        int anchors = x.anchors();
-        for (int n = 0; n < anchors; n++) {
-            text.append(' ').append(x.anchor(n, 0)).append(',').append(x.anchor(n, 1));
-        }
-        return text.toString();
-    }
-
-    /** The latest reach: "p q alive farthest". */
-    static String reachedOf(SeedChainer x) {
-        return x.reached(0) + " " + x.reached(1) + " " + x.reached(2) + " " + x.reached(3);
     }
 
     void same(String what, String got, String want) {
         looked++;
         if (!got.equals(want)) {
-            wrong++;
-            System.out.println(what + " gave \"" + got + "\", due is \"" + want + "\"");
+            tell(what + " gave \"" + got + "\", due is \"" + want + "\"");
         }
+    }
+
+    /** The call answers NONE in the state, and behind it everything is as it is without the call. */
+    void refused(State state, String call, ToIntFunction<SeedChainer> refusedCall) {
+        for (Probe probe : Probe.values()) {
+            SeedChainer x = state.make();
+            due(call + " in state " + state, refusedCall.applyAsInt(x), SeedChainer.NONE);
+            same(probe + " after " + call + " in state " + state, probe.read(x), probe.read(state.make()));
+        }
+    }
+
+    void refusedInEveryState(String call, ToIntFunction<SeedChainer> refusedCall) {
+        for (State state : State.values()) {
+            refused(state, call, refusedCall);
+        }
+    }
+
+    /** The same of a call that answers false. */
+    void deniedInEveryState(String call, Predicate<SeedChainer> deniedCall) {
+        refusedInEveryState(call, x -> deniedCall.test(x) ? 1 : SeedChainer.NONE);
+    }
+
+    void end() {
+        System.out.println(cases + " cases, " + wrongCases + " wrong; " + looked + " answers looked at, " + wrong + " not as due");
+        if (wrong != 0 || looked == 0) {
+            System.exit(1);
+        }
+    }
+
+    private void tell(String fault) {
+        wrong++;
+        System.out.println(current + ": " + fault);
     }
 }

@@ -10,6 +10,12 @@ public final class FaceTest {
     private static final Check check = new Check();
 
     public static void main(String[] args) {
+        check.test("the face of the document and nothing beside it", FaceTest::face);
+        check.test("the class is public and final", FaceTest::publicAndFinal);
+        check.end();
+    }
+
+    private static void face() {
         Set<String> shown = new TreeSet<>();
         for (Method method : SeedChainer.class.getDeclaredMethods()) {
             if (!Modifier.isPrivate(method.getModifiers())) {
@@ -25,8 +31,10 @@ public final class FaceTest {
             shown.add(constructor.toString());
         }
         check.same("the face", String.join("\n", shown), String.join("\n", due()));
-        check.due("the class is public and final", SeedChainer.class.getModifiers(), Modifier.PUBLIC | Modifier.FINAL);
-        check.end();
+    }
+
+    private static void publicAndFinal() {
+        check.due("modifiers", SeedChainer.class.getModifiers(), Modifier.PUBLIC | Modifier.FINAL);
     }
 
     private static Set<String> due() {

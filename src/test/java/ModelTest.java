@@ -15,14 +15,17 @@ public final class ModelTest {
     }
 
     public static void main(String[] args) {
-        for (int run = 0; run < 400; run++) {
-            smallRowsAllChains(run);
+        for (int n = 0; n < 400; n++) {
+            int run = n;
+            check.test("small rows, all chains, run " + run, () -> smallRowsAllChains(run));
         }
-        for (int run = 0; run < 60; run++) {
-            mixedRun(run);
+        for (int n = 0; n < 60; n++) {
+            int run = n;
+            check.test("512 calls of all kinds, run " + run, () -> mixedRun(run));
         }
-        for (int run = 0; run < 8; run++) {
-            fullRows(run);
+        for (int n = 0; n < 8; n++) {
+            int run = n;
+            check.test("full rows, run " + run, () -> fullRows(run));
         }
         check.end();
     }
@@ -43,14 +46,14 @@ public final class ModelTest {
         m.rows[1].append(someLetters(below(7), kinds));
         m.k = 1 + below(3);
         m.g = below(10);
-        SeedChainer x = Check.rows(m.rows[0].toString(), m.rows[1].toString());
+        SeedChainer x = Rows.of(m.rows[0].toString(), m.rows[1].toString());
         x.seeds(m.k);
         x.penalty(m.g);
         String name = "small run " + run + " (" + m.rows[0] + ", " + m.rows[1] + ", " + m.k + ", " + m.g + ")";
         List<int[]> best = m.bestOfAll(new ArrayList<>());
-        check.same(name, Check.chainOf(x), m.text(best));
+        check.same(name, Look.chain(x), m.text(best));
         check.same(name + " by the model's own quicker way", m.text(m.bestChain()), m.text(best));
-        check.same(name + " anchors", Check.anchorsOf(x), m.anchorText());
+        check.same(name + " anchors", Look.anchors(x), m.anchorText());
     }
 
     /** 512 calls of all kinds, right and wrong ones. */
@@ -65,7 +68,7 @@ public final class ModelTest {
 
     private static void oneCall(String name, Model m, SeedChainer x, int kinds) {
         int row = below(20) == 0 ? below(5) - 2 : below(2);
-        switch (below(16)) {
+        switch (below(17)) {
             case 0, 1, 2, 3, 4 -> {
                 int letter = below(20) == 0 ? below(8) - 2 : below(kinds);
                 check.due(name + " put", x.put(row, letter), m.put(row, letter));
@@ -91,8 +94,8 @@ public final class ModelTest {
                 int[] s = {below(12) - 1, below(13) - 1, below(12) - 1, below(4) == 0 ? below(104) - 2 : below(20)};
                 check.due(name + " scores", x.scores(s[0], s[1], s[2], s[3]), m.scores(s));
             }
-            case 10 -> {
-                check.due(name + " anchors", x.anchors(), m.anchors().size());
+            case 10 -> check.due(name + " anchors", x.anchors(), m.anchors().size());
+            case 16 -> {
                 int n = below(m.anchors().size() + 3) - 1;
                 int which = below(4) - 1;
                 check.due(name + " anchor", x.anchor(n, which), m.place(m.anchors(), n, which));
@@ -123,20 +126,20 @@ public final class ModelTest {
         int kinds = 1 + run % 4;
         m.rows[0].append(someLetters(48, kinds));
         m.rows[1].append(someLetters(48, kinds));
-        SeedChainer x = Check.rows(m.rows[0].toString(), m.rows[1].toString());
+        SeedChainer x = Rows.of(m.rows[0].toString(), m.rows[1].toString());
         for (int k = 1; k <= 6; k++) {
             m.k = k;
             m.g = below(10);
             x.seeds(m.k);
             x.penalty(m.g);
-            check.same("full run " + run + " K " + k, Check.chainOf(x), m.text(m.bestChain()));
+            check.same("full run " + run + " K " + k, Look.chain(x), m.text(m.bestChain()));
             int[] s = {1 + below(9), below(10), 1 + below(9), below(100)};
             check.due("full run scores", x.scores(s[0], s[1], s[2], s[3]), m.scores(s));
             int i = below(10);
             int j = below(10);
             check.due("full run " + run + " reach", x.reach(i, j), m.reach(i, j));
             String want = m.reached[0] + " " + m.reached[1] + " " + m.reached[2] + " " + m.reached[3];
-            check.same("full run " + run + " reached", Check.reachedOf(x), want);
+            check.same("full run " + run + " reached", Look.reached(x), want);
         }
     }
 
