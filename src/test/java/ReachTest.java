@@ -38,6 +38,7 @@ public final class ReachTest {
         check.test("a way goes over a slope with no cell alive", ReachTest::overDeadSlope);
         check.test("full rows, all alike", ReachTest::fullRows);
         check.test("the same reach again gives the same", ReachTest::again);
+        check.test("nothing is left of an earlier reach", ReachTest::nothingLeftOfEarlier);
     }
 
     private static void theEnd() {
@@ -245,6 +246,21 @@ public final class ReachTest {
         x.reach(3, 2);
         reach(x, 0, 0, score, reached);
         reach(x, 0, 0, score, reached);
+    }
+
+    private static void nothingLeftOfEarlier() {
+        SeedChainer x = scored("0", "0", 9, 9, 1, 99);
+        reach(x, 0, 0, 9, "1 1 4 2");
+        x.cut(1);
+        x.put(1, 1);
+        reach(x, 0, 0, 0, "0 0 4 2");
+        Rows.fill(x, "00", "00");
+        check.due("reach(1, 1) between them", x.reach(1, 1), 18);
+        x.cut(0);
+        x.cut(0);
+        x.cut(1);
+        x.cut(1);
+        reach(x, 0, 0, 0, "0 0 4 2");
     }
 
     private static void greatestScore() {
